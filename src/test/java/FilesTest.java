@@ -321,6 +321,13 @@ final class FilesTest {
         due("extent 1's length", 2, x.extent(0, 1, 1));
         due("index", 8, x.block(11, 2));
         due("stamp 8", 3, x.block(8, 3));
+        LendingDisk y = new LendingDisk();
+        y.set(LendingDisk.MOST, 0);
+        Check.typeAll(y, "n;n;n;o0;o1;o2;a0:1=1;a1:3=2;a2:1=3;x1;d1");
+        due("perform", 11, y.perform());
+        due("append to a file of one block", 2, y.append(0, 5, 4));
+        due("behind it first", 4, y.extent(0, 0, 1));
+        due("the rest further on", 5, y.extent(0, 1, 0));
     }
 
     /** Files of 4, 1, 6, 1, 5 and 1 blocks from block 0 on, of which 0, 2 and 4 are removed. */

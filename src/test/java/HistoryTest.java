@@ -9,6 +9,7 @@ final class HistoryTest {
     public static void main(String[] args) {
         undo();
         undoOfEachAction();
+        undoOfEachMethod();
         fiveStates();
         recordsWithoutAChange();
         whatIsNoAction();
@@ -56,6 +57,36 @@ final class HistoryTest {
         due("totals of step 2", 1, y.total(2));
         y.undo();
         compare("undone append", before, picture(y));
+    }
+
+    private static void undoOfEachMethod() {
+        for (int method = 0; method < 12; method++) {
+            LendingDisk x = Check.after("n;n;n;o0;o2;a0:4=1;s0;a0:3=2;a2:5=3", "a2:1=4");
+            x.save();
+            x.append(2, 3, 5);
+            int[] before = picture(x);
+            due("method " + method, 1, call(x, method) >= 0 ? 1 : 0);
+            due("is one state, " + method, 4, x.count(9));
+            due("undo of method " + method, 3, x.undo());
+            compare("undone method " + method, before, picture(x));
+        }
+    }
+
+    private static int call(LendingDisk x, int method) {
+        switch (method) {
+            case 0: return x.create();
+            case 1: return x.open(1);
+            case 2: return x.close(0);
+            case 3: return x.remove(1);
+            case 4: return x.sync(0);
+            case 5: return x.append(0, 20, 9);
+            case 6: return x.cut(0, 2);
+            case 7: return x.crash();
+            case 8: return x.mend();
+            case 9: return x.set(LendingDisk.MOST, 1);
+            case 10: return x.set(LendingDisk.POLICY, 1);
+            default: return x.restore();
+        }
     }
 
     private static int[] picture(LendingDisk x) {

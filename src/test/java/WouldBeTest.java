@@ -141,5 +141,10 @@ final class WouldBeTest {
         x.mend();
         CHECK.due("wholeness without blocks", 1.0, x.wholeness());
         due("states", 5, x.count(9));
+        LendingDisk y = new LendingDisk();
+        y.set(LendingDisk.MOST, 0);
+        Check.typeAll(y, "n;n;o0;o1;a0:1=1;a1:1=1;a0:1=1");
+        due("perform", 7, y.perform());
+        CHECK.due("wholeness with a file of one block", 2.0 / 3.0, y.wholeness());
     }
 }
