@@ -40,80 +40,23 @@ final class HistoryTest {
     /** Undoing the last of the actions gives back all that can be asked for. */
     private static void undoOfEachAction() {
         String[] scripts = {"n", "o1", "x0", "d1", "s0", "a0:20=9", "t0:2", "!", "m"};
+        String start = Run.typing("n;n;n;o0;o2;a0:4=1;s0;a0:3=2;a2:5=3") + "; perform; clearText";
         for (String script : scripts) {
-            LendingDisk x = Check.after("n;n;n;o0;o2;a0:4=1;s0;a0:3=2;a2:5=3");
-            int[] before = picture(x);
-            Check.typeAll(x, script);
-            due("perform " + script, 1, x.perform());
-            due("undo " + script, 1, x.undo());
-            x.clearText();
-            compare("undone " + script, before, picture(x));
-            due("undo further", 0, x.undo());
-            due("nothing is there", 0, x.count(0));
+            new Run(CHECK, "undo of the order " + script).made(start).typed(script).due("perform", 1).due("undo", 1)
+                .made("clearText").isAsAfter(start).due("undo", 0).due("count 0", 0);
         }
-        LendingDisk y = Check.after("n;n;o0;o1;a0:30=1;a1:20=2;a1:2=3");
-        int[] before = picture(y);
-        due("append with step 2", 2, y.append(0, 11, 7));
-        due("totals of step 2", 1, y.total(2));
-        y.undo();
-        compare("undone append", before, picture(y));
+        start = Run.typing("n;n;o0;o1;a0:30=1;a1:20=2;a1:2=3") + "; perform; clearText";
+        new Run(CHECK, "undo of an append with the step 2").made(start).due("append 0 11 7", 2).due("total 2", 1)
+            .due("undo", 1).isAsAfter(start);
     }
 
     private static void undoOfEachMethod() {
-        for (int method = 0; method < 12; method++) {
-            LendingDisk x = Check.after("n;n;n;o0;o2;a0:4=1;s0;a0:3=2;a2:5=3", "a2:1=4");
-            x.save();
-            x.append(2, 3, 5);
-            int[] before = picture(x);
-            due("method " + method, 1, call(x, method) >= 0 ? 1 : 0);
-            due("is one state, " + method, 4, x.count(9));
-            due("undo of method " + method, 3, x.undo());
-            compare("undone method " + method, before, picture(x));
-        }
-    }
-
-    private static int call(LendingDisk x, int method) {
-        switch (method) {
-            case 0: return x.create();
-            case 1: return x.open(1);
-            case 2: return x.close(0);
-            case 3: return x.remove(1);
-            case 4: return x.sync(0);
-            case 5: return x.append(0, 20, 9);
-            case 6: return x.cut(0, 2);
-            case 7: return x.crash();
-            case 8: return x.mend();
-            case 9: return x.set(LendingDisk.MOST, 1);
-            case 10: return x.set(LendingDisk.POLICY, 1);
-            default: return x.restore();
-        }
-    }
-
-    private static int[] picture(LendingDisk x) {
-        int[] numbers = new int[64 * 4 + 8 * 6 + 11 + 4];
-        int at = 0;
-        for (int block = 0; block < 64; block++) {
-            for (int what = 0; what < 4; what++) {
-                numbers[at++] = x.block(block, what);
-            }
-        }
-        for (int file = 0; file < 8; file++) {
-            for (int what = 0; what < 6; what++) {
-                numbers[at++] = x.file(file, what);
-            }
-        }
-        for (int what = 0; what < 11; what++) {
-            numbers[at++] = x.count(what);
-        }
-        for (int what = 0; what < 4; what++) {
-            numbers[at++] = x.total(what);
-        }
-        return numbers;
-    }
-
-    private static void compare(String name, int[] want, int[] got) {
-        for (int i = 0; i < want.length; i++) {
-            due(name + " [" + i + "]", want[i], got[i]);
+        String[] methods = {"create", "open 1", "close 0", "remove 1", "sync 0", "append 0 20 9", "cut 0 2", "crash", "mend",
+            "set 0 1", "set 1 1", "restore"};
+        String start = Run.typing("n;n;n;o0;o2;a0:4=1;s0;a0:3=2;a2:5=3") + "; perform; append 2 1 4; save; append 2 3 5";
+        for (String method : methods) {
+            new Run(CHECK, "undo of " + method).made(start).due("count 9", 3).made(method).due("count 9", 4).due("undo", 3)
+                .isAsAfter(start);
         }
     }
 
@@ -215,7 +158,6 @@ final class HistoryTest {
         x.open(0);
         x.append(0, 5, 50);
         x.save();
-        int[] before = picture(x);
         x.crash();
         x.mend();
         x.remove(0);
@@ -225,10 +167,6 @@ final class HistoryTest {
         due("text stays", 1, x.count(10));
         due("states", 5, x.count(9));
         due("setting", 3, x.set(LendingDisk.MOST, 3));
-        x.clearText();
-        int[] after = picture(x);
-        before[64 * 4 + 8 * 6 + 9] = after[64 * 4 + 8 * 6 + 9];
-        compare("restored", before, after);
         due("undo set", 4, x.undo());
         due("undo restore", 3, x.undo());
         due("the state before", LendingDisk.NO_SUCH, x.file(0, 0));
@@ -238,6 +176,8 @@ final class HistoryTest {
         x.append(0, 20, 9);
         due("the snapshot is not changed by actions", 58, x.restore());
         due("stamp", 0, x.block(9, 3));
+        String saved = "set 0 3; create; open 0; append 0 5 50";
+        new Run(CHECK, "restore").made(saved).made("save; crash; mend; remove 0; set 0 9; restore").stateIsAsAfter(saved);
     }
 
     private static void snapshotOutlivesUndo() {
