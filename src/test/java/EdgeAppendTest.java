@@ -278,6 +278,8 @@ final class EdgeAppendTest {
         Layouts.holes(CHECK, "if the file has blocks: one that is cut to 0 has none", 0, sizes, 0, 2).made("open 3; cut 3 0")
             // free: 0 to 2, and 4 to the end
             .due("append 3 2 9", 1).due("extent 3 0 0", 0);
+        Layouts.holes(CHECK, "if the file has blocks: it has one", 0, new int[] {1, 2, 1, 1, 1}, 1, 3).made("open 0")
+            .due("append 0 1 9", 1).due("extent 0 0 1", 2).due("block 4 0", NONE);
         Layouts.holes(CHECK, "if the file has blocks: lent ones are blocks", 0, new int[] {2, 2, 1, 1, 1}, 0)
             // lent are 0 and 1; free then: 2 and 3, 5, and 7 to the end
             .made("create; open 0; append 0 2 3; crash; remove 1; remove 3; open 0").due("append 0 3 9", 1)

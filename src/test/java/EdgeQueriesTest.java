@@ -297,6 +297,9 @@ final class EdgeQueriesTest {
         Layouts.eight(CHECK, "8 files of one extent").dueUnchanged("wholeness", 1.0).made("append 0 2 1")
             .dueUnchanged("wholeness", 8.0 / 9.0).made("append 3 2 1").dueUnchanged("wholeness", 8.0 / 10.0)
             .made("close 7; remove 7").dueUnchanged("wholeness", 7.0 / 9.0);
+        Layouts.holes(CHECK, "files of one block each", 0, new int[] {1, 1, 1}).dueUnchanged("wholeness", 1.0)
+            .made("open 0; append 0 1 9").dueUnchanged("wholeness", 3.0 / 4.0).made("close 0; remove 0; remove 1")
+            .dueUnchanged("wholeness", 1.0).made("remove 2").dueUnchanged("wholeness", 1.0);
         run("files with blocks: lent ones, too")
             .made("create; create; create; open 0; open 1; append 0 2 1; append 1 2 1; append 0 5 1; crash")
             .dueUnchanged("wholeness", 2.0 / 3.0).made("mend").dueUnchanged("wholeness", 1.0);
